@@ -164,8 +164,8 @@ public final class RowDesk {
             return FULL;
         }
         made.shortenTo(0);
-        // Counted by bytes: a row of none, asked for a thousand million times, ends at once.
-        for (int done = 0; done < length; done += Math.max(row.length(), 1)) {
+        // The length is looked at too, as a row of no bytes may be asked for any number of times.
+        for (int i = 0; i < n && made.length() < length; i++) {
             made.addRow(row);
         }
         return keepMade(target);
