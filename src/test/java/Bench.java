@@ -1,23 +1,39 @@
 /**
- * Rows and a pad from which each check starts a desk of its own, so that no check leans on another
- * and no desk comes near its 512th call. Rows are given and read as texts of characters 0 .. 255.
+ * Rows, a pad and a tape from which each check starts desks of its own, so that no check leans on
+ * another and no desk comes near its 512th call. Rows are given and read as texts of characters
+ * 0 .. 255.
  */
 final class Bench {
     static final int NONE = -1;
     static final int FULL = -4;
     static final int GREATEST = Integer.MAX_VALUE;
     static final int LEAST = Integer.MIN_VALUE;
-    static final int[] NO_REGISTERS = {-1, 10, 11, LEAST, GREATEST};
+    static final int ROW_MOST = 200;
+    static final int[] ALL_REGISTERS = {0, 1, 2, 3, 4, 5, 6, 7, 8, 9};
+    static final int[] NO_REGISTERS = {-1, -2, 10, 11, 16, 256, LEAST, LEAST + 1, GREATEST - 1, GREATEST};
+    static final int[] BELOW_NONE = {-2, -3, FULL, -200, -256, LEAST + 1, LEAST};
+    static final int[] BELOW_0 = {-1, -2, FULL, -200, -256, LEAST + 1, LEAST};
+    static final int[] BELOW_1 = {0, -1, -2, FULL, -200, -256, LEAST + 1, LEAST};
+    /** With these, sums and products of two ints wrap around to 0, to few bytes or below 0. */
+    static final int[] ABOVE_200 = {201, 256, 65536, 1 << 24, 1 << 29, 1 << 30, 0x55555556,
+        GREATEST - 199, GREATEST - 1, GREATEST};
 
     private static final int REGISTERS = 10;
-    private static int wrong = 0;
+    private static String sentence = "";
+    private static int sentences = 0;
     private static int checks = 0;
+    private static int wrong = 0;
 
     private final int pad;
     private final String[] rows = new String[REGISTERS];
+    private String tape = "left on the tape";
 
     interface Call {
         int on(RowDesk desk);
+    }
+
+    interface NumberCall {
+        int on(RowDesk desk, int number);
     }
 
     /** The texts are in registers 0, 1, 2 ..; those behind them have something to be replaced. */
@@ -28,26 +44,52 @@ final class Bench {
         }
     }
 
+    Bench withTape(String text) {
+        tape = text;
+        return this;
+    }
+
+    /** The checks that follow are of these words of the document. */
+    static void sentence(String place, String words) {
+        sentence = place + ", \"" + words + "\": ";
+        sentences++;
+    }
+
     /** The call makes this row in register `to`, and changes nothing else. */
     void made(String name, Call call, int to, String want) {
-        RowDesk desk = newDesk();
-        due(name, call.on(desk), want.length());
-        dueText(name, text(desk, to), want);
-        stays(name, desk, to);
+        look(name, call, want.length(), to, want);
     }
 
     /** The call answers so, and changes nothing. */
     void answers(String name, Call call, int want) {
-        RowDesk desk = newDesk();
-        due(name, call.on(desk), want);
-        stays(name, desk, NONE);
+        look(name, call, want, NONE, "");
+    }
+
+    void answersEach(int[] numbers, String name, NumberCall call, int want) {
+        for (int number : numbers) {
+            answers(name + " " + number, desk -> call.on(desk, number), want);
+        }
+    }
+
+    void madeEach(int[] numbers, String name, NumberCall call, int to, String want) {
+        for (int number : numbers) {
+            made(name + " " + number, desk -> call.on(desk, number), to, want);
+        }
+    }
+
+    /** What is due stands at the number's own index. */
+    void answersInTurn(int[] want, int from, String name, NumberCall call) {
+        for (int i = from; i < want.length; i++) {
+            int number = i;
+            answers(name + " " + number, desk -> call.on(desk, number), want[number]);
+        }
     }
 
     static void due(String call, long got, long want) {
         checks++;
         if (got != want) {
             wrong++;
-            System.out.println(call + " answered " + got + ", due is " + want);
+            System.out.println(sentence + call + " answered " + got + ", due is " + want);
         }
     }
 
@@ -55,13 +97,32 @@ final class Bench {
         checks++;
         if (!got.equals(want)) {
             wrong++;
-            System.out.println(call + " made " + shown(got) + ", due is " + shown(want));
+            System.out.println(sentence + call + " has " + shown(got) + ", due is " + shown(want));
         }
+    }
+
+    /** The row of the register, and none behind its end. */
+    static void dueRow(String name, RowDesk desk, int r, String want) {
+        String what = "after " + name + ": register " + r;
+        dueText(what, text(desk, r), want);
+        due(what + ", behind its end", desk.at(r, want.length()), NONE);
+    }
+
+    /** Uses up the tape; bytes behind the 200th are counted alone, as no call can read them. */
+    static void dueTape(String name, RowDesk desk, String want) {
+        String what = "after " + name + ": the tape";
+        int read = Math.min(want.length(), ROW_MOST);
+        due(what + ", one more", desk.end(want.length() + 1), NONE);
+        due(what + ", all", desk.end(want.length()), want.length());
+        due(what + ", what a row can have", desk.end(read), read);
+        due(what + ", put", desk.put(0), read);
+        dueRow(name + ": the tape in", desk, 0, want.substring(0, read));
     }
 
     /** Ends the program, with exit code 1 if an answer was not the one due. */
     static void close() {
-        System.out.println(checks + " checks, " + wrong + " wrong");
+        String of = sentences > 0 ? " of " + sentences + " sentences" : "";
+        System.out.println(checks + " checks" + of + ", " + wrong + " wrong");
         if (wrong > 0) {
             System.exit(1);
         }
@@ -90,7 +151,16 @@ final class Bench {
         return text.toString();
     }
 
-    private RowDesk newDesk() {
+    /** All that a desk has, each looked at on a desk of its own, as reading takes a call a byte. */
+    private void look(String name, Call call, int answer, int to, String want) {
+        for (int r = 0; r < REGISTERS; r++) {
+            dueRow(name, deskAfter(name, call, answer), r, r == to ? want : rows[r]);
+        }
+        due("after " + name + ": the pad", deskAfter(name, call, answer).pad(pad), pad);
+        dueTape(name, deskAfter(name, call, answer), tape);
+    }
+
+    private RowDesk deskAfter(String name, Call call, int answer) {
         RowDesk desk = new RowDesk();
         for (int r = 0; r < REGISTERS; r++) {
             if (!rows[r].isEmpty()) {
@@ -98,26 +168,9 @@ final class Bench {
             }
         }
         due("pad", desk.pad(pad), 32);
+        feedText(desk, 0, tape);
+        due(name, call.on(desk), answer);
         return desk;
-    }
-
-    /** All but register `but` is as it was; of long rows only the ends are looked at. */
-    private void stays(String name, RowDesk desk, int but) {
-        for (int r = 0; r < REGISTERS; r++) {
-            if (r == but) {
-                continue;
-            }
-            String row = rows[r];
-            String what = "after " + name + ": register " + r;
-            due(what + ", size", desk.size(r), row.length());
-            for (int i = 0; i < row.length(); i++) {
-                if (i < 10 || i >= row.length() - 10) {
-                    due(what + ", byte " + i, desk.at(r, i), row.charAt(i));
-                }
-            }
-        }
-        due("after " + name + ": end(1)", desk.end(1), NONE);
-        due("after " + name + ": pad", desk.pad(pad), pad);
     }
 
     private static String shown(String text) {

@@ -63,13 +63,15 @@ public final class ModelTest {
         return value;
     }
 
+    /** Few registers are used often, so that calls meet what other calls made. */
     private int register() {
-        return random.nextInt(30) == 0 ? -1 + 11 * random.nextInt(2) : random.nextInt(6);
+        int kind = random.nextInt(30);
+        return kind == 0 ? -1 + 11 * random.nextInt(2) : random.nextInt(kind < 4 ? 10 : 6);
     }
 
     private int number() {
-        int[] odd = {-2, 99, 100, 199, 200, 201, Integer.MIN_VALUE, Integer.MAX_VALUE,
-            Integer.MAX_VALUE - 1, 1 << 30, 1 << 24, 256, 255};
+        int[] odd = {-2, 99, 100, 199, 200, 201, Integer.MIN_VALUE, Integer.MIN_VALUE + 1,
+            Integer.MAX_VALUE, Integer.MAX_VALUE - 1, 1 << 30, 1 << 29, 0x55555556, 1 << 24, 256, 255};
         return random.nextInt(12) == 0 ? odd[random.nextInt(odd.length)] : random.nextInt(14) - 1;
     }
 

@@ -1,354 +1,360 @@
-/** Promises 8 to 21: rows cut, filled, joined, searched, changed, turned. */
+/** Promises 8 to 13, sentence by sentence: rows filled, cut, joined, copied, set into one another. */
 public final class RowsTest {
     private static final int NONE = Bench.NONE;
     private static final int FULL = Bench.FULL;
     private static final int GREATEST = Bench.GREATEST;
-    private static final int LEAST = Bench.LEAST;
+    private static final int[] ABOVE_200 = Bench.ABOVE_200;
     private static final String LONG = "x".repeat(200);
+    private static final String PADS = "-".repeat(200);
 
     public static void main(String[] args) {
-        fill();
+        fillBehind();
+        fillAhead();
+        fillBothSides();
+        fillBothSidesCut();
+        fillNumbers();
+        fillWays();
         part();
+        partToTheEnd();
+        partPlaces();
+        partNumbers();
         cut();
+        cutAllBehind();
+        cutPlaces();
+        cutNumbers();
         join();
+        joinNumbers();
         copies();
-        set();
-        find();
-        change();
-        often();
-        unlike();
-        strip();
-        turn();
-        translate();
-        verify();
+        copiesNumbers();
+        setPutIn();
+        setLaidOver();
+        setFilledFirst();
+        setFull();
+        setNumbers();
         Bench.close();
     }
 
-    private static void fill() {
-        Bench b = new Bench('-', "abcde", "old", "");
+    private static void fillBehind() {
+        Bench.sentence("Promise 8", "way 0: cut or filled (with THE PAD) behind");
+        Bench b = new Bench('-', "abcde", "", LONG);
         b.made("fill 0, longer", d -> d.fill(0, 0, 8, 3), 3, "abcde---");
-        b.made("fill 0, shorter", d -> d.fill(0, 0, 2, 3), 3, "ab");
+        b.made("fill 0, longer by 1", d -> d.fill(0, 0, 6, 3), 3, "abcde-");
         b.made("fill 0, as it is", d -> d.fill(0, 0, 5, 3), 3, "abcde");
+        b.made("fill 0, shorter by 1", d -> d.fill(0, 0, 4, 3), 3, "abcd");
+        b.made("fill 0, shorter", d -> d.fill(0, 0, 2, 3), 3, "ab");
+        b.made("fill 0 to 200", d -> d.fill(0, 0, 200, 3), 3, "abcde" + PADS.substring(5));
+        b.made("fill 0 of 200", d -> d.fill(0, 2, 200, 3), 3, LONG);
+        b.made("fill 0 of none", d -> d.fill(0, 1, 3, 3), 3, "---");
+        b.made("fill 0 of itself", d -> d.fill(0, 0, 7, 0), 0, "abcde--");
+    }
+
+    private static void fillAhead() {
+        Bench.sentence("Promise 8", "1: ahead");
+        Bench b = new Bench('-', "abcde", "", LONG);
         b.made("fill 1, longer", d -> d.fill(1, 0, 8, 3), 3, "---abcde");
-        b.made("fill 1, shorter", d -> d.fill(1, 0, 2, 3), 3, "de");
+        b.made("fill 1, longer by 1", d -> d.fill(1, 0, 6, 3), 3, "-abcde");
         b.made("fill 1, as it is", d -> d.fill(1, 0, 5, 3), 3, "abcde");
+        b.made("fill 1, shorter by 1", d -> d.fill(1, 0, 4, 3), 3, "bcde");
+        b.made("fill 1, shorter", d -> d.fill(1, 0, 2, 3), 3, "de");
+        b.made("fill 1 to 200", d -> d.fill(1, 0, 200, 3), 3, PADS.substring(5) + "abcde");
+        b.made("fill 1 of 200", d -> d.fill(1, 2, 200, 3), 3, LONG);
+        b.made("fill 1 of none", d -> d.fill(1, 1, 3, 3), 3, "---");
+        b.made("fill 1 of itself", d -> d.fill(1, 0, 7, 0), 0, "--abcde");
+        b.made("fill 1 of itself, cut", d -> d.fill(1, 0, 3, 0), 0, "cde");
+    }
+
+    private static void fillBothSides() {
+        Bench.sentence("Promise 8", "2: on both sides, the half, rounded down, ahead");
+        Bench b = new Bench('-', "abcde", "", LONG);
+        b.made("fill 2, as it is", d -> d.fill(2, 0, 5, 3), 3, "abcde");
+        b.made("fill 2, longer by 1", d -> d.fill(2, 0, 6, 3), 3, "abcde-");
+        b.made("fill 2, longer by 2", d -> d.fill(2, 0, 7, 3), 3, "-abcde-");
         b.made("fill 2, longer by 3", d -> d.fill(2, 0, 8, 3), 3, "-abcde--");
         b.made("fill 2, longer by 4", d -> d.fill(2, 0, 9, 3), 3, "--abcde--");
-        b.made("fill 2, longer by 1", d -> d.fill(2, 0, 6, 3), 3, "abcde-");
+        b.made("fill 2 to 200", d -> d.fill(2, 0, 200, 3), 3,
+                PADS.substring(0, 97) + "abcde" + PADS.substring(0, 98));
+        b.made("fill 2 of 200", d -> d.fill(2, 2, 200, 3), 3, LONG);
+        b.made("fill 2 of none", d -> d.fill(2, 1, 3, 3), 3, "---");
+        b.made("fill 2 of itself", d -> d.fill(2, 0, 8, 0), 0, "-abcde--");
+    }
+
+    private static void fillBothSidesCut() {
+        Bench.sentence("Promise 8", "(cut: of what is too much)");
+        Bench b = new Bench('-', "abcde", "a" + LONG.substring(2) + "z");
         b.made("fill 2, shorter by 1", d -> d.fill(2, 0, 4, 3), 3, "abcd");
         b.made("fill 2, shorter by 2", d -> d.fill(2, 0, 3, 3), 3, "bcd");
         b.made("fill 2, shorter by 3", d -> d.fill(2, 0, 2, 3), 3, "bc");
-        b.made("fill 2, as it is", d -> d.fill(2, 0, 5, 3), 3, "abcde");
+        b.made("fill 2, shorter by 4", d -> d.fill(2, 0, 1, 3), 3, "c");
+        b.made("fill 2, shorter by all", d -> d.fill(2, 0, 0, 3), 3, "");
+        b.made("fill 2, 199 of 200", d -> d.fill(2, 1, 199, 3), 3, "a" + LONG.substring(2));
+        b.made("fill 2, 198 of 200", d -> d.fill(2, 1, 198, 3), 3, LONG.substring(2));
+        b.made("fill 2 of itself, cut", d -> d.fill(2, 0, 2, 0), 0, "bc");
+    }
+
+    private static void fillNumbers() {
+        Bench.sentence("Promise 8", "n bytes, 0 or more");
+        Bench b = new Bench('-', "abcde", "old", "", LONG);
         for (int way : new int[] {0, 1, 2}) {
-            b.made("fill to none", d -> d.fill(way, 0, 0, 3), 3, "");
-            b.made("fill of none", d -> d.fill(way, 2, 3, 3), 3, "---");
-            b.made("fill to 200", d -> d.fill(way, 2, 200, 3), 3, "-".repeat(200));
-            b.answers("fill to 201", d -> d.fill(way, 0, 201, 1), FULL);
-            b.answers("fill to greatest", d -> d.fill(way, 0, GREATEST, 1), FULL);
-            b.answers("fill to -1", d -> d.fill(way, 0, -1, 1), NONE);
-            b.answers("fill to least", d -> d.fill(way, 0, LEAST, 1), NONE);
-            b.answers("fill, no register a, 201", d -> d.fill(way, 10, 201, 1), NONE);
-            b.answers("fill, no register to, 201", d -> d.fill(way, 0, 201, -1), NONE);
+            for (int a : new int[] {0, 2, 3}) {
+                b.answersEach(Bench.BELOW_0, "fill " + way, (d, n) -> d.fill(way, a, n, 1), NONE);
+                b.answersEach(ABOVE_200, "fill " + way, (d, n) -> d.fill(way, a, n, 1), FULL);
+                b.made("fill to none", d -> d.fill(way, a, 0, 4), 4, "");
+            }
+            b.made("fill of none to 1", d -> d.fill(way, 2, 1, 4), 4, "-");
+            b.made("fill of none to 200", d -> d.fill(way, 2, 200, 4), 4, PADS);
         }
-        b.answers("fill way 3", d -> d.fill(3, 0, 2, 1), NONE);
-        b.answers("fill way -1, 201", d -> d.fill(-1, 0, 201, 1), NONE);
-        b.made("fill into itself", d -> d.fill(1, 0, 7, 0), 0, "--abcde");
-        b.made("fill into itself, cut", d -> d.fill(1, 0, 3, 0), 0, "cde");
+    }
+
+    private static void fillWays() {
+        Bench.sentence("Promise 8", "way 0 ... 1 ... 2: a number that is none of those told, is NONE");
+        Bench b = new Bench('-', "abcde", "old", "");
+        int[] wrongWays = {-1, -2, 3, 4, 256, Bench.LEAST, GREATEST};
+        for (int n : new int[] {0, 5, 9, 201}) {
+            b.answersEach(wrongWays, "fill to " + n + ", way", (d, way) -> d.fill(way, 0, n, 1), NONE);
+        }
     }
 
     private static void part() {
-        Bench b = new Bench('-', "abcde", "old");
-        b.made("part 2, 3", d -> d.part(0, 2, 3, 2), 2, "bcd");
-        b.made("part 4, 4", d -> d.part(0, 4, 4, 2), 2, "de--");
-        b.made("part 5, 1", d -> d.part(0, 5, 1, 2), 2, "e");
-        b.made("part 6, 2", d -> d.part(0, 6, 2, 2), 2, "--");
-        b.made("part greatest, 2", d -> d.part(0, GREATEST, 2, 2), 2, "--");
-        b.made("part greatest, 200", d -> d.part(0, GREATEST, 200, 2), 2, "-".repeat(200));
-        b.made("part 3, NONE", d -> d.part(0, 3, NONE, 2), 2, "cde");
-        b.made("part 1, NONE", d -> d.part(0, 1, NONE, 2), 2, "abcde");
-        b.made("part 6, NONE", d -> d.part(0, 6, NONE, 2), 2, "");
-        b.made("part greatest, NONE", d -> d.part(0, GREATEST, NONE, 2), 2, "");
-        b.made("part 1, 0", d -> d.part(0, 1, 0, 2), 2, "");
-        b.answers("part 1, 201", d -> d.part(0, 1, 201, 1), FULL);
-        b.answers("part 1, greatest", d -> d.part(0, 1, GREATEST, 1), FULL);
-        b.answers("part 0, 201", d -> d.part(0, 0, 201, 1), NONE);
-        b.answers("part -1", d -> d.part(0, -1, 1, 1), NONE);
-        b.answers("part 1, -2", d -> d.part(0, 1, -2, 1), NONE);
-        b.answers("part 1, least", d -> d.part(0, 1, LEAST, 1), NONE);
-        b.answers("part, no register a, 201", d -> d.part(-1, 1, 201, 1), NONE);
-        b.answers("part, no register to, 201", d -> d.part(0, 1, 201, 10), NONE);
+        Bench.sentence("Promise 9", "the n bytes of a from place k on, filled with THE PAD behind its end");
+        Bench b = new Bench('-', "abcde", "", LONG);
+        b.made("part 1, 1", d -> d.part(0, 1, 1, 3), 3, "a");
+        b.made("part 2, 3", d -> d.part(0, 2, 3, 3), 3, "bcd");
+        b.made("part 1, 5", d -> d.part(0, 1, 5, 3), 3, "abcde");
+        b.made("part 1, 6", d -> d.part(0, 1, 6, 3), 3, "abcde-");
+        b.made("part 4, 4", d -> d.part(0, 4, 4, 3), 3, "de--");
+        b.made("part 5, 1", d -> d.part(0, 5, 1, 3), 3, "e");
+        b.made("part 6, 2", d -> d.part(0, 6, 2, 3), 3, "--");
+        b.made("part 1, 0", d -> d.part(0, 1, 0, 3), 3, "");
+        b.made("part 5, 200", d -> d.part(0, 5, 200, 3), 3, "e" + PADS.substring(1));
+        b.made("part of none", d -> d.part(1, 1, 2, 3), 3, "--");
+        b.made("part of 200", d -> d.part(2, 1, 200, 3), 3, LONG);
+        b.made("part of 200 from 200", d -> d.part(2, 200, 2, 3), 3, "x-");
         b.made("part of itself", d -> d.part(0, 2, 5, 0), 0, "bcde-");
     }
 
+    private static void partToTheEnd() {
+        Bench.sentence("Promise 9", "all up to its end if n is NONE");
+        Bench b = new Bench('-', "abcde", "", LONG);
+        b.made("part 1, NONE", d -> d.part(0, 1, NONE, 3), 3, "abcde");
+        b.made("part 3, NONE", d -> d.part(0, 3, NONE, 3), 3, "cde");
+        b.made("part 5, NONE", d -> d.part(0, 5, NONE, 3), 3, "e");
+        b.made("part 6, NONE", d -> d.part(0, 6, NONE, 3), 3, "");
+        b.made("part of none, NONE", d -> d.part(1, 1, NONE, 3), 3, "");
+        b.made("part of 200, NONE", d -> d.part(2, 1, NONE, 3), 3, LONG);
+        b.madeEach(ABOVE_200, "part NONE from", (d, k) -> d.part(2, k, NONE, 3), 3, "");
+    }
+
+    private static void partPlaces() {
+        Bench.sentence("Promise 9", "k 1 or more");
+        Bench b = new Bench('-', "abcde", "old", LONG, "");
+        for (int a : new int[] {0, 2, 3}) {
+            b.madeEach(ABOVE_200, "part 2 from", (d, k) -> d.part(a, k, 2, 4), 4, "--");
+            b.madeEach(ABOVE_200, "part 0 from", (d, k) -> d.part(a, k, 0, 4), 4, "");
+            b.madeEach(ABOVE_200, "part 200 from", (d, k) -> d.part(a, k, 200, 4), 4, PADS);
+            b.answersEach(ABOVE_200, "part 201 from", (d, k) -> d.part(a, k, 201, 1), FULL);
+            for (int n : new int[] {NONE, 0, 1, 201}) {
+                b.answersEach(Bench.BELOW_1, "part " + n + " from", (d, k) -> d.part(a, k, n, 1), NONE);
+            }
+        }
+    }
+
+    private static void partNumbers() {
+        Bench.sentence("Promise 9", "n NONE or more");
+        Bench b = new Bench('-', "abcde", "old", LONG, "");
+        for (int a : new int[] {0, 2, 3}) {
+            for (int k : new int[] {1, 3, 201, GREATEST}) {
+                b.answersEach(Bench.BELOW_NONE, "part from " + k, (d, n) -> d.part(a, k, n, 1), NONE);
+                b.answersEach(ABOVE_200, "part from " + k, (d, n) -> d.part(a, k, n, 1), FULL);
+            }
+        }
+    }
+
     private static void cut() {
-        Bench b = new Bench('-', "abcde", "old", LONG);
-        b.made("cut 2, 3", d -> d.cut(0, 2, 3, 3), 3, "ae");
+        Bench.sentence("Promise 10", "a without the n bytes from place k on");
+        Bench b = new Bench('-', "abcde", "", LONG);
         b.made("cut 1, 1", d -> d.cut(0, 1, 1, 3), 3, "bcde");
+        b.made("cut 2, 3", d -> d.cut(0, 2, 3, 3), 3, "ae");
+        b.made("cut 2, 4", d -> d.cut(0, 2, 4, 3), 3, "a");
+        b.made("cut 2, 5", d -> d.cut(0, 2, 5, 3), 3, "a");
         b.made("cut 5, 1", d -> d.cut(0, 5, 1, 3), 3, "abcd");
-        b.made("cut 4, 9", d -> d.cut(0, 4, 9, 3), 3, "abc");
         b.made("cut 6, 1", d -> d.cut(0, 6, 1, 3), 3, "abcde");
         b.made("cut 2, 0", d -> d.cut(0, 2, 0, 3), 3, "abcde");
-        b.made("cut 3, NONE", d -> d.cut(0, 3, NONE, 3), 3, "ab");
-        b.made("cut 1, NONE", d -> d.cut(0, 1, NONE, 3), 3, "");
-        b.made("cut 9, NONE", d -> d.cut(0, 9, NONE, 3), 3, "abcde");
-        b.made("cut 2, greatest", d -> d.cut(0, 2, GREATEST, 3), 3, "a");
-        b.made("cut greatest, greatest", d -> d.cut(0, GREATEST, GREATEST, 3), 3, "abcde");
-        b.made("cut greatest, NONE", d -> d.cut(0, GREATEST, NONE, 3), 3, "abcde");
-        b.made("cut of 200", d -> d.cut(2, 201, 1, 3), 3, LONG);
-        b.answers("cut 0", d -> d.cut(0, 0, 1, 1), NONE);
-        b.answers("cut least", d -> d.cut(0, LEAST, 1, 1), NONE);
-        b.answers("cut 1, -2", d -> d.cut(0, 1, -2, 1), NONE);
-        b.answers("cut, no register a", d -> d.cut(10, 1, 1, 1), NONE);
-        b.answers("cut, no register to", d -> d.cut(0, 1, 1, -1), NONE);
+        b.made("cut 1, 5", d -> d.cut(0, 1, 5, 3), 3, "");
+        b.made("cut of none", d -> d.cut(1, 1, 1, 3), 3, "");
+        b.made("cut 200 of 200", d -> d.cut(2, 1, 200, 3), 3, "");
+        b.made("cut 1 of 200", d -> d.cut(2, 200, 1, 3), 3, LONG.substring(1));
         b.made("cut of itself", d -> d.cut(0, 2, 2, 0), 0, "ade");
     }
 
+    private static void cutAllBehind() {
+        Bench.sentence("Promise 10", "without all behind k and it if n is NONE");
+        Bench b = new Bench('-', "abcde", "", LONG);
+        b.made("cut 1, NONE", d -> d.cut(0, 1, NONE, 3), 3, "");
+        b.made("cut 3, NONE", d -> d.cut(0, 3, NONE, 3), 3, "ab");
+        b.made("cut 5, NONE", d -> d.cut(0, 5, NONE, 3), 3, "abcd");
+        b.made("cut 6, NONE", d -> d.cut(0, 6, NONE, 3), 3, "abcde");
+        b.made("cut of none, NONE", d -> d.cut(1, 1, NONE, 3), 3, "");
+        b.madeEach(ABOVE_200, "cut NONE from", (d, k) -> d.cut(2, k, NONE, 3), 3, LONG);
+    }
+
+    private static void cutPlaces() {
+        Bench.sentence("Promise 10", "k 1 or more");
+        Bench b = new Bench('-', "abcde", "old", LONG, "");
+        for (int n : new int[] {NONE, 0, 1, 200, 201, GREATEST}) {
+            b.madeEach(ABOVE_200, "cut " + n + " from", (d, k) -> d.cut(0, k, n, 4), 4, "abcde");
+            for (int a : new int[] {0, 2, 3}) {
+                b.answersEach(Bench.BELOW_1, "cut " + n + " from", (d, k) -> d.cut(a, k, n, 1), NONE);
+            }
+        }
+    }
+
+    private static void cutNumbers() {
+        Bench.sentence("Promise 10", "n NONE or more");
+        Bench b = new Bench('-', "abcde", "old", LONG, "");
+        b.madeEach(ABOVE_200, "cut from 1", (d, n) -> d.cut(0, 1, n, 4), 4, "");
+        b.madeEach(ABOVE_200, "cut from 2", (d, n) -> d.cut(0, 2, n, 4), 4, "a");
+        b.madeEach(ABOVE_200, "cut from 5", (d, n) -> d.cut(0, 5, n, 4), 4, "abcd");
+        b.madeEach(ABOVE_200, "cut of 200 from 200", (d, n) -> d.cut(2, 200, n, 4), 4, LONG.substring(1));
+        b.madeEach(ABOVE_200, "cut from greatest", (d, n) -> d.cut(0, GREATEST, n, 4), 4, "abcde");
+        for (int a : new int[] {0, 2, 3}) {
+            for (int k : new int[] {1, 3, 201, GREATEST}) {
+                b.answersEach(Bench.BELOW_NONE, "cut from " + k, (d, n) -> d.cut(a, k, n, 1), NONE);
+            }
+        }
+    }
+
     private static void join() {
-        Bench b = new Bench('-', "abc", "de", "", "y".repeat(100), "old");
-        b.made("join 0", d -> d.join(0, 1, 0, 5), 5, "abcde");
+        Bench.sentence("Promise 11", "a and b behind it, with w times THE PAD between");
+        Bench b = new Bench('-', "abc", "de", "", "y".repeat(100), LONG);
+        b.made("join 1", d -> d.join(0, 1, 1, 5), 5, "abc-de");
         b.made("join 3", d -> d.join(0, 1, 3, 5), 5, "abc---de");
-        b.made("join of none", d -> d.join(2, 2, 2, 5), 5, "--");
-        b.made("join to 200", d -> d.join(3, 3, 0, 5), 5, "y".repeat(200));
-        b.made("join to 200 by pads", d -> d.join(0, 1, 195, 5), 5, "abc" + "-".repeat(195) + "de");
-        b.answers("join to 201", d -> d.join(3, 3, 1, 4), FULL);
-        b.answers("join to 201 by pads", d -> d.join(0, 1, 196, 4), FULL);
-        b.answers("join greatest", d -> d.join(0, 1, GREATEST, 4), FULL);
-        b.answers("join -1", d -> d.join(3, 3, -1, 4), NONE);
-        b.answers("join least", d -> d.join(0, 1, LEAST, 4), NONE);
-        b.answers("join, no register a", d -> d.join(-1, 3, 200, 4), NONE);
-        b.answers("join, no register b", d -> d.join(3, 10, 200, 4), NONE);
-        b.answers("join, no register to", d -> d.join(3, 3, 200, 10), NONE);
+        b.made("join of none and none", d -> d.join(2, 2, 2, 5), 5, "--");
+        b.made("join of none ahead", d -> d.join(2, 1, 2, 5), 5, "--de");
+        b.made("join of none behind", d -> d.join(1, 2, 2, 5), 5, "de--");
+        b.made("join of 100s", d -> d.join(3, 3, 0, 5), 5, "y".repeat(200));
+        b.made("join of 200 and none", d -> d.join(4, 2, 0, 5), 5, LONG);
+        b.made("join of none and 200", d -> d.join(2, 4, 0, 5), 5, LONG);
         b.made("join into b", d -> d.join(0, 1, 1, 1), 1, "abc-de");
         b.made("join with itself", d -> d.join(0, 0, 1, 0), 0, "abc-abc");
     }
 
+    private static void joinNumbers() {
+        Bench.sentence("Promise 11", "0 or more");
+        Bench b = new Bench('-', "abc", "de", "", "y".repeat(100), "old", LONG);
+        b.made("join 0", d -> d.join(0, 1, 0, 6), 6, "abcde");
+        b.made("join 0 of none", d -> d.join(2, 2, 0, 6), 6, "");
+        b.made("join to 200", d -> d.join(0, 1, 195, 6), 6, "abc" + PADS.substring(5) + "de");
+        b.made("join of none to 200", d -> d.join(2, 2, 200, 6), 6, PADS);
+        b.answers("join to 201", d -> d.join(0, 1, 196, 4), FULL);
+        b.answers("join of 100s to 201", d -> d.join(3, 3, 1, 4), FULL);
+        b.answers("join of 200s", d -> d.join(5, 5, 0, 4), FULL);
+        b.answers("join of 200 and a pad", d -> d.join(5, 2, 1, 4), FULL);
+        for (int a : new int[] {0, 2, 5}) {
+            b.answersEach(ABOVE_200, "join", (d, w) -> d.join(a, 2, w, 4), FULL);
+            b.answersEach(ABOVE_200, "join", (d, w) -> d.join(5, a, w, 4), FULL);
+            b.answersEach(Bench.BELOW_0, "join", (d, w) -> d.join(a, a, w, 4), NONE);
+        }
+    }
+
     private static void copies() {
-        Bench b = new Bench('-', "abc", "", "ab".repeat(50), "old");
+        Bench.sentence("Promise 12", "n times a");
+        Bench b = new Bench('-', "abc", "ab".repeat(50), LONG);
         b.made("copies 1", d -> d.copies(0, 1, 4), 4, "abc");
         b.made("copies 3", d -> d.copies(0, 3, 4), 4, "abcabcabc");
         b.made("copies 66", d -> d.copies(0, 66, 4), 4, "abc".repeat(66));
-        b.made("copies 0", d -> d.copies(0, 0, 4), 4, "");
-        b.made("copies to 200", d -> d.copies(2, 2, 4), 4, "ab".repeat(100));
-        b.made("copies of none, greatest", d -> d.copies(1, GREATEST, 4), 4, "");
-        b.answers("copies 67", d -> d.copies(0, 67, 3), FULL);
-        b.answers("copies greatest", d -> d.copies(0, GREATEST, 3), FULL);
-        b.answers("copies wrapping", d -> d.copies(2, 1 << 30, 3), FULL);
-        b.answers("copies -1", d -> d.copies(0, -1, 3), NONE);
-        b.answers("copies -1 of none", d -> d.copies(1, -1, 3), NONE);
-        b.answers("copies, no register a", d -> d.copies(10, 67, 3), NONE);
-        b.answers("copies, no register to", d -> d.copies(0, 67, 10), NONE);
+        b.made("copies of 100", d -> d.copies(1, 2, 4), 4, "ab".repeat(100));
+        b.made("copies of 200", d -> d.copies(2, 1, 4), 4, LONG);
         b.made("copies into itself", d -> d.copies(0, 2, 0), 0, "abcabc");
     }
 
-    private static void set() {
-        Bench b = new Bench('-', "AB", "abcde", "", LONG, "old");
+    private static void copiesNumbers() {
+        Bench.sentence("Promise 12", "0 or more");
+        Bench b = new Bench('-', "abc", "", "ab".repeat(50), "old", "abcd", LONG, "z");
+        for (int a : new int[] {0, 1, 2, 5}) {
+            b.made("copies 0", d -> d.copies(a, 0, 7), 7, "");
+            b.answersEach(Bench.BELOW_0, "copies", (d, n) -> d.copies(a, n, 3), NONE);
+        }
+        b.madeEach(ABOVE_200, "copies of none", (d, n) -> d.copies(1, n, 7), 7, "");
+        for (int a : new int[] {0, 2, 4, 5, 6}) {
+            b.answersEach(ABOVE_200, "copies of " + a, (d, n) -> d.copies(a, n, 3), FULL);
+        }
+        b.made("copies of one to 200", d -> d.copies(6, 200, 7), 7, "z".repeat(200));
+        b.answers("copies to 201", d -> d.copies(0, 67, 3), FULL);
+        b.answers("copies of 200 to 400", d -> d.copies(5, 2, 3), FULL);
+    }
+
+    private static void setPutIn() {
+        Bench.sentence("Promise 13", "b with a put in behind its byte n");
+        Bench b = new Bench('-', "AB", "abcde", "", "x".repeat(198), LONG);
         b.made("set in 0", d -> d.set(0, 1, 0, false, 5), 5, "ABabcde");
-        b.made("set in 2", d -> d.set(0, 1, 2, false, 5), 5, "abABcde");
+        b.made("set in 1", d -> d.set(0, 1, 1, false, 5), 5, "aABbcde");
+        b.made("set in 4", d -> d.set(0, 1, 4, false, 5), 5, "abcdABe");
         b.made("set in 5", d -> d.set(0, 1, 5, false, 5), 5, "abcdeAB");
-        b.made("set in 7", d -> d.set(0, 1, 7, false, 5), 5, "abcde--AB");
+        b.made("set none in 2", d -> d.set(2, 1, 2, false, 5), 5, "abcde");
+        b.made("set in none", d -> d.set(0, 2, 0, false, 5), 5, "AB");
+        b.made("set in 198", d -> d.set(0, 3, 197, false, 5), 5, "x".repeat(197) + "ABx");
+        b.made("set none in 200", d -> d.set(2, 4, 200, false, 5), 5, LONG);
+        b.made("set 200 in none", d -> d.set(4, 2, 0, false, 5), 5, LONG);
+        b.made("set in itself", d -> d.set(0, 0, 1, false, 0), 0, "AABB");
+    }
+
+    private static void setLaidOver() {
+        Bench.sentence("Promise 13", "or laid over it from there on");
+        Bench b = new Bench('-', "AB", "abcde", "", LONG);
         b.made("set over 0", d -> d.set(0, 1, 0, true, 5), 5, "ABcde");
         b.made("set over 2", d -> d.set(0, 1, 2, true, 5), 5, "abABe");
         b.made("set over 3", d -> d.set(0, 1, 3, true, 5), 5, "abcAB");
         b.made("set over 4", d -> d.set(0, 1, 4, true, 5), 5, "abcdAB");
         b.made("set over 5", d -> d.set(0, 1, 5, true, 5), 5, "abcdeAB");
-        b.made("set over 7", d -> d.set(0, 1, 7, true, 5), 5, "abcde--AB");
-        b.made("set none in 7", d -> d.set(2, 1, 7, false, 5), 5, "abcde--");
-        b.made("set none over 7", d -> d.set(2, 1, 7, true, 5), 5, "abcde--");
         b.made("set none over 2", d -> d.set(2, 1, 2, true, 5), 5, "abcde");
-        b.made("set into none", d -> d.set(0, 2, 3, false, 5), 5, "---AB");
-        b.made("set over of 200", d -> d.set(0, 3, 198, true, 5), 5, "x".repeat(198) + "AB");
-        b.made("set in, to 200", d -> d.set(0, 1, 198, false, 5), 5, "abcde" + "-".repeat(193) + "AB");
-        b.made("set over with 200", d -> d.set(3, 1, 0, true, 5), 5, LONG);
-        b.made("set none in 200", d -> d.set(2, 3, 200, false, 5), 5, LONG);
-        b.answers("set in 199", d -> d.set(0, 1, 199, false, 4), FULL);
-        b.answers("set over 199", d -> d.set(0, 1, 199, true, 4), FULL);
-        b.answers("set over 199 of 200", d -> d.set(0, 3, 199, true, 4), FULL);
-        b.answers("set in 0 of 200", d -> d.set(0, 3, 0, false, 4), FULL);
-        b.answers("set none in 201", d -> d.set(2, 1, 201, false, 4), FULL);
-        b.answers("set none over 201", d -> d.set(2, 1, 201, true, 4), FULL);
-        b.answers("set in greatest", d -> d.set(0, 1, GREATEST, false, 4), FULL);
-        b.answers("set over greatest", d -> d.set(0, 1, GREATEST, true, 4), FULL);
-        b.answers("set in -1", d -> d.set(0, 1, -1, false, 4), NONE);
-        b.answers("set over -1, FULL too", d -> d.set(3, 3, -1, true, 4), NONE);
-        b.answers("set, no register a", d -> d.set(-1, 3, 300, false, 4), NONE);
-        b.answers("set, no register b", d -> d.set(3, 10, 300, false, 4), NONE);
-        b.answers("set, no register to", d -> d.set(3, 3, 300, false, 10), NONE);
+        b.made("set over none", d -> d.set(0, 2, 0, true, 5), 5, "AB");
+        b.made("set over the end of 200", d -> d.set(0, 3, 198, true, 5), 5, "x".repeat(198) + "AB");
+        b.made("set none over 200", d -> d.set(2, 3, 200, true, 5), 5, LONG);
+        b.made("set 200 over", d -> d.set(3, 1, 0, true, 5), 5, LONG);
         b.made("set over itself", d -> d.set(1, 1, 2, true, 1), 1, "ababcde");
-        b.made("set in itself", d -> d.set(0, 0, 1, false, 0), 0, "AABB");
     }
 
-    private static void find() {
-        Bench b = new Bench('-', "aa", "aaabaaa", "", "b", "aaabaaab", "c");
-        int[] first = {0, 1, 2, 5, 5, 5, 6, 0, 0};
-        int[] last = {0, 0, 1, 2, 2, 2, 5, 6, 6};
-        for (int k : new int[] {1, 2, 3, 4, 5, 6, 7, 8}) {
-            b.answers("find first " + k, d -> d.find(0, 1, k, false), first[k]);
-            b.answers("find last " + k, d -> d.find(0, 1, k, true), last[k]);
+    private static void setFilledFirst() {
+        Bench.sentence("Promise 13", "b is first filled with THE PAD, if it is shorter");
+        Bench b = new Bench('-', "AB", "abcde", "");
+        for (boolean over : new boolean[] {false, true}) {
+            b.made("set 6", d -> d.set(0, 1, 6, over, 5), 5, "abcde-AB");
+            b.made("set 7", d -> d.set(0, 1, 7, over, 5), 5, "abcde--AB");
+            b.made("set none 7", d -> d.set(2, 1, 7, over, 5), 5, "abcde--");
+            b.made("set 3 of none", d -> d.set(0, 2, 3, over, 5), 5, "---AB");
+            b.made("set none 3 of none", d -> d.set(2, 2, 3, over, 5), 5, "---");
+            b.made("set to 200", d -> d.set(0, 1, 198, over, 5), 5, "abcde" + PADS.substring(7) + "AB");
+            b.made("set none to 200", d -> d.set(2, 2, 200, over, 5), 5, PADS);
         }
-        b.answers("find last NONE", d -> d.find(0, 1, NONE, true), 6);
-        b.answers("find last greatest", d -> d.find(0, 1, GREATEST, true), 6);
-        b.answers("find first greatest", d -> d.find(0, 1, GREATEST, false), 0);
-        b.answers("find itself", d -> d.find(1, 1, 1, false), 1);
-        b.answers("find itself, last", d -> d.find(1, 1, NONE, true), 1);
-        b.answers("find itself, last, 6", d -> d.find(1, 1, 6, true), 0);
-        b.answers("find longer", d -> d.find(4, 1, 1, false), 0);
-        b.answers("find longer, last", d -> d.find(4, 1, NONE, true), 0);
-        b.answers("find what is not there", d -> d.find(5, 1, 1, false), 0);
-        b.answers("find what is not there, last", d -> d.find(5, 1, NONE, true), 0);
-        b.answers("find none", d -> d.find(2, 1, 1, false), 0);
-        b.answers("find none, last", d -> d.find(2, 1, NONE, true), 0);
-        b.answers("find none in none", d -> d.find(2, 2, 1, false), 0);
-        b.answers("find none in none, last", d -> d.find(2, 2, NONE, true), 0);
-        b.answers("find in none", d -> d.find(0, 2, 1, false), 0);
-        b.answers("find in none, last", d -> d.find(0, 2, NONE, true), 0);
-        b.answers("find one", d -> d.find(3, 4, 5, false), 8);
-        b.answers("find one, last", d -> d.find(3, 4, 7, true), 4);
-        int[] wrongPlaces = {0, -2, LEAST};
-        for (int k : wrongPlaces) {
-            b.answers("find " + k, d -> d.find(0, 1, k, false), NONE);
-            b.answers("find last " + k, d -> d.find(0, 1, k, true), NONE);
-            b.answers("find none, " + k, d -> d.find(2, 1, k, false), NONE);
+    }
+
+    private static void setFull() {
+        Bench.sentence("Promise 13", "What would have more than 200 is FULL");
+        Bench b = new Bench('-', "AB", "abcde", "", LONG, "old", "x".repeat(199));
+        for (boolean over : new boolean[] {false, true}) {
+            b.answers("set behind 199", d -> d.set(0, 1, 199, over, 4), FULL);
+            b.answers("set behind 200", d -> d.set(0, 3, 200, over, 4), FULL);
+            b.answers("set behind 199 of 200", d -> d.set(0, 3, 199, over, 4), FULL);
+            b.answers("set none behind 201", d -> d.set(2, 2, 201, over, 4), FULL);
+            b.answers("set 200 behind 1", d -> d.set(3, 1, 1, over, 4), FULL);
         }
-        b.answers("find first NONE", d -> d.find(0, 1, NONE, false), NONE);
-        b.answers("find, no register a", d -> d.find(10, 1, 1, false), NONE);
-        b.answers("find, no register b", d -> d.find(0, -1, 1, true), NONE);
-        b.answers("find none, no register b", d -> d.find(2, 10, 1, true), NONE);
+        b.answers("set in 0 of 200", d -> d.set(0, 3, 0, false, 4), FULL);
+        b.answers("set in 0 of 199", d -> d.set(0, 5, 0, false, 4), FULL);
+        b.answers("set in 199 of 199", d -> d.set(0, 5, 199, false, 4), FULL);
+        b.answers("set 200 in 5", d -> d.set(3, 1, 0, false, 4), FULL);
     }
 
-    private static void change() {
-        Bench b = new Bench('-', "aa", "aaabaaaa", "XYZ", "", "old", "ab".repeat(100), "b");
-        b.made("change to longer", d -> d.change(0, 1, 2, 7), 7, "XYZabXYZXYZ");
-        b.made("change to none", d -> d.change(0, 1, 3, 7), 7, "ab");
-        b.made("change of none", d -> d.change(3, 1, 2, 7), 7, "aaabaaaa");
-        b.made("change in none", d -> d.change(0, 3, 2, 7), 7, "");
-        b.made("change to itself", d -> d.change(0, 1, 0, 7), 7, "aaabaaaa");
-        b.made("change of all", d -> d.change(1, 1, 2, 7), 7, "XYZ");
-        b.made("change, not there", d -> d.change(2, 1, 0, 7), 7, "aaabaaaa");
-        b.made("change of 200", d -> d.change(6, 5, 3, 7), 7, "a".repeat(100));
-        b.made("change of 200 to as long", d -> d.change(6, 5, 6, 7), 7, "ab".repeat(100));
-        b.answers("change beyond 200", d -> d.change(6, 5, 2, 4), FULL);
-        b.answers("change of 200 by itself", d -> d.change(6, 5, 5, 4), FULL);
-        b.answers("change, no register a", d -> d.change(10, 5, 2, 4), NONE);
-        b.answers("change, no register b", d -> d.change(6, 10, 2, 4), NONE);
-        b.answers("change, no register c", d -> d.change(6, 5, -1, 4), NONE);
-        b.answers("change, no register to", d -> d.change(6, 5, 2, 10), NONE);
-        b.made("change into b", d -> d.change(0, 1, 2, 1), 1, "XYZabXYZXYZ");
-        b.made("change into c", d -> d.change(0, 1, 6, 6), 6, "babbb");
-        b.made("change into a", d -> d.change(0, 1, 2, 0), 0, "XYZabXYZXYZ");
-        Bench edge = new Bench(32, "a", "a".repeat(100), "bb", "a".repeat(100) + "c");
-        edge.made("change to 200", d -> d.change(0, 1, 2, 4), 4, "b".repeat(200));
-        edge.answers("change to 201", d -> d.change(0, 3, 2, 4), FULL);
-    }
-
-    private static void often() {
-        Bench b = new Bench('-', "aa", "aaabaaaaa", "", "aba", "ababababa", LONG, "x");
-        b.answers("often", d -> d.often(0, 1), 3);
-        b.answers("often, overlapping", d -> d.often(3, 4), 2);
-        b.answers("often of none", d -> d.often(2, 1), 0);
-        b.answers("often in none", d -> d.often(0, 2), 0);
-        b.answers("often of none in none", d -> d.often(2, 2), 0);
-        b.answers("often of itself", d -> d.often(1, 1), 1);
-        b.answers("often of a longer one", d -> d.often(1, 0), 0);
-        b.answers("often 200", d -> d.often(6, 5), 200);
-        b.answers("often, no register a", d -> d.often(-1, 1), NONE);
-        b.answers("often, no register b", d -> d.often(2, 10), NONE);
-    }
-
-    private static void unlike() {
-        Bench b = new Bench('-', "abc", "abd", "abc--", "", "---", "abc--x", "abc  ", "\377bc");
-        b.answers("unlike at 3", d -> d.unlike(0, 1), 3);
-        b.answers("unlike, pads behind", d -> d.unlike(0, 2), 0);
-        b.answers("unlike, pads behind a", d -> d.unlike(2, 0), 0);
-        b.answers("unlike, none and pads", d -> d.unlike(3, 4), 0);
-        b.answers("unlike behind the pads", d -> d.unlike(0, 5), 6);
-        b.answers("unlike behind the pads of a", d -> d.unlike(5, 0), 6);
-        b.answers("unlike, blanks are no pads", d -> d.unlike(0, 6), 4);
-        b.answers("unlike itself", d -> d.unlike(1, 1), 0);
-        b.answers("unlike none", d -> d.unlike(3, 3), 0);
-        b.answers("unlike at 1", d -> d.unlike(0, 7), 1);
-        b.answers("unlike none at 1", d -> d.unlike(3, 0), 1);
-        new Bench(32, "abc", "abc  ").answers("unlike, blanks are pads", d -> d.unlike(0, 1), 0);
-        b.answers("unlike, no register a", d -> d.unlike(10, 0), NONE);
-        b.answers("unlike, no register b", d -> d.unlike(0, -1), NONE);
-    }
-
-    private static void strip() {
-        Bench b = new Bench('-', "--a-b---", "----", "", " a ", "old");
-        b.made("strip both", d -> d.strip(0, 0, 5), 5, "a-b");
-        b.made("strip the begin", d -> d.strip(0, 1, 5), 5, "a-b---");
-        b.made("strip the end", d -> d.strip(0, 2, 5), 5, "--a-b");
-        for (int ends : new int[] {0, 1, 2}) {
-            b.made("strip pads alone", d -> d.strip(1, ends, 5), 5, "");
-            b.made("strip none", d -> d.strip(2, ends, 5), 5, "");
-            b.made("strip blanks", d -> d.strip(3, ends, 5), 5, " a ");
+    private static void setNumbers() {
+        Bench.sentence("Promise 13", "(0 or more)");
+        Bench b = new Bench('-', "AB", "abcde", "", LONG, "old");
+        for (boolean over : new boolean[] {false, true}) {
+            String name = over ? "set over" : "set in";
+            for (int a : new int[] {0, 2, 3}) {
+                for (int row : new int[] {1, 2, 3}) {
+                    b.answersEach(ABOVE_200, name, (d, n) -> d.set(a, row, n, over, 4), FULL);
+                    b.answersEach(Bench.BELOW_0, name, (d, n) -> d.set(a, row, n, over, 4), NONE);
+                }
+            }
         }
-        b.answers("strip 3", d -> d.strip(0, 3, 4), NONE);
-        b.answers("strip -1", d -> d.strip(0, -1, 4), NONE);
-        b.answers("strip, no register a", d -> d.strip(10, 0, 4), NONE);
-        b.answers("strip, no register to", d -> d.strip(0, 0, 10), NONE);
-        b.made("strip itself", d -> d.strip(0, 0, 0), 0, "a-b");
-    }
-
-    private static void turn() {
-        String odd = "`az{@AZ[\340\300\377\0 1bB";
-        Bench b = new Bench('-', odd, "", "old", "cabbac\377\0\200\177c", LONG);
-        b.made("turn about", d -> d.turn(0, 0, 5), 5, new StringBuilder(odd).reverse().toString());
-        b.made("turn to capitals", d -> d.turn(1, 0, 5), 5, "`AZ{@AZ[\340\300\377\0 1BB");
-        b.made("turn to small letters", d -> d.turn(2, 0, 5), 5, "`az{@az[\340\300\377\0 1bb");
-        b.made("turn in order", d -> d.turn(3, 3, 5), 5, "\0aabbccc\177\200\377");
-        b.made("turn, each once", d -> d.turn(4, 3, 5), 5, "cab\377\0\200\177");
-        b.made("turn in order, 200", d -> d.turn(3, 4, 5), 5, LONG);
-        b.made("turn, each once of 200", d -> d.turn(4, 4, 5), 5, "x");
-        for (int how : new int[] {0, 1, 2, 3, 4}) {
-            b.made("turn none", d -> d.turn(how, 1, 5), 5, "");
-            b.answers("turn, no register a", d -> d.turn(how, 10, 2), NONE);
-            b.answers("turn, no register to", d -> d.turn(how, 0, -1), NONE);
-        }
-        b.answers("turn 5", d -> d.turn(5, 0, 2), NONE);
-        b.answers("turn -1", d -> d.turn(-1, 0, 2), NONE);
-        b.made("turn itself about", d -> d.turn(0, 2, 2), 2, "dlo");
-        b.made("turn itself in order", d -> d.turn(3, 2, 2), 2, "dlo");
-        b.made("turn itself to capitals", d -> d.turn(1, 2, 2), 2, "OLD");
-    }
-
-    private static void translate() {
-        Bench b = new Bench('-', "abcabcd", "XYZ", "abca", "", "old", "\377\0", "\0\377", "bbc", "bca");
-        b.made("translate", d -> d.translate(0, 1, 2, 9), 9, "XYZXYZd");
-        b.made("translate to none", d -> d.translate(0, 3, 2, 9), 9, "------d");
-        b.made("translate by none", d -> d.translate(0, 1, 3, 9), 9, "abcabcd");
-        b.made("translate none", d -> d.translate(3, 1, 2, 9), 9, "");
-        b.made("translate, the first counts", d -> d.translate(0, 1, 7, 9), 9, "aXZaXZd");
-        b.made("translate once alone", d -> d.translate(0, 8, 2, 9), 9, "bcabcad");
-        b.made("translate edges", d -> d.translate(5, 6, 5, 9), 9, "\0\377");
-        b.answers("translate, no register a", d -> d.translate(10, 1, 2, 4), NONE);
-        b.answers("translate, no register b", d -> d.translate(0, 10, 2, 4), NONE);
-        b.answers("translate, no register c", d -> d.translate(0, 1, -1, 4), NONE);
-        b.answers("translate, no register to", d -> d.translate(0, 1, 2, 10), NONE);
-        b.made("translate into c", d -> d.translate(0, 1, 2, 2), 2, "XYZXYZd");
-        b.made("translate into b", d -> d.translate(0, 1, 0, 1), 1, "XYZXYZ-");
-        b.made("translate into a", d -> d.translate(0, 4, 0, 0), 0, "oldold-");
-    }
-
-    private static void verify() {
-        Bench b = new Bench('-', "abcabcd", "ca", "", "abcd", "\377\0x", "x\377");
-        int[] in = {0, 1, 3, 3, 4, 6, 6, 0, 0};
-        int[] out = {0, 2, 2, 5, 5, 5, 7, 7, 0};
-        for (int k : new int[] {1, 2, 3, 4, 5, 6, 7, 8}) {
-            b.answers("verify " + k, d -> d.verify(0, 1, k, false), in[k]);
-            b.answers("verify other " + k, d -> d.verify(0, 1, k, true), out[k]);
-        }
-        b.answers("verify by none", d -> d.verify(0, 2, 1, false), 0);
-        b.answers("verify other by none", d -> d.verify(0, 2, 3, true), 3);
-        b.answers("verify of none", d -> d.verify(2, 1, 1, false), 0);
-        b.answers("verify other of none", d -> d.verify(2, 2, 1, true), 0);
-        b.answers("verify by all", d -> d.verify(0, 3, 1, true), 0);
-        b.answers("verify edges", d -> d.verify(4, 5, 1, true), 2);
-        b.answers("verify edges, in", d -> d.verify(4, 5, 1, false), 1);
-        b.answers("verify greatest", d -> d.verify(0, 1, GREATEST, true), 0);
-        b.answers("verify 0", d -> d.verify(0, 1, 0, false), NONE);
-        b.answers("verify NONE", d -> d.verify(0, 1, NONE, true), NONE);
-        b.answers("verify least", d -> d.verify(0, 1, LEAST, true), NONE);
-        b.answers("verify, no register a", d -> d.verify(-1, 1, 1, false), NONE);
-        b.answers("verify, no register b", d -> d.verify(0, 10, 1, false), NONE);
     }
 }
