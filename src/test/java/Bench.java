@@ -85,12 +85,13 @@ final class Bench {
         }
     }
 
-    static void due(String call, long got, long want) {
+    static boolean due(String call, long got, long want) {
         checks++;
         if (got != want) {
             wrong++;
             System.out.println(sentence + call + " answered " + got + ", due is " + want);
         }
+        return got == want;
     }
 
     static void dueText(String call, String got, String want) {
@@ -153,23 +154,41 @@ final class Bench {
 
     /** All that a desk has, each looked at on a desk of its own, as reading takes a call a byte. */
     private void look(String name, Call call, int answer, int to, String want) {
-        for (int r = 0; r < REGISTERS; r++) {
-            dueRow(name, deskAfter(name, call, answer), r, r == to ? want : rows[r]);
+        if (!due(name, call.on(newDesk()), answer)) {
+            return;
         }
-        due("after " + name + ": the pad", deskAfter(name, call, answer).pad(pad), pad);
-        dueTape(name, deskAfter(name, call, answer), tape);
+        for (int r = 0; r < REGISTERS; r++) {
+            dueRow(name, deskAfter(call), r, r == to ? want : rows[r]);
+        }
+        due("after " + name + ": the pad", deskAfter(call).pad(pad), pad);
+        dueTape(name, deskAfter(call), tape);
     }
 
-    private RowDesk deskAfter(String name, Call call, int answer) {
-        RowDesk desk = new RowDesk();
+    private RowDesk deskAfter(Call call) {
+        RowDesk desk = newDesk();
+        call.on(desk);
+        return desk;
+    }
+
+    private RowDesk newDesk() {
+        RowDesk desk = usedDesk();
         for (int r = 0; r < REGISTERS; r++) {
-            if (!rows[r].isEmpty()) {
-                load(desk, r, rows[r]);
-            }
+            load(desk, r, rows[r]);
         }
         due("pad", desk.pad(pad), 32);
         feedText(desk, 0, tape);
-        due(name, call.on(desk), answer);
+        return desk;
+    }
+
+    /** A desk that has made long rows of many bytes and words, so that what they leave behind shows. */
+    private static RowDesk usedDesk() {
+        RowDesk desk = new RowDesk();
+        load(desk, 0, "\0\377 zyxwvutsrqponmlkjihgfedcba YX-BA one two three four");
+        due("order before", desk.order(0, 0, 1), 54);
+        due("place before", desk.place(1, 0, 1), 0);
+        due("translate before", desk.translate(0, 1, 0, 2), 54);
+        due("fill before", desk.fill(1, 2, 200, 3), 200);
+        due("verify before", desk.verify(0, 0, 1, false), 1);
         return desk;
     }
 

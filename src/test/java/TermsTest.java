@@ -45,6 +45,8 @@ public final class TermsTest {
         Bench.due("feed behind 240", desk.feed(1, 2, 3, 4, 5), FULL);
         Bench.due("end(241)", desk.end(241), NONE);
         Bench.due("end(240)", desk.end(240), 240);
+        Bench.due("end(221)", desk.end(221), 221);
+        Bench.due("feed behind 221", desk.feed(1, 2, 3, 4, 5), FULL);
         Bench.due("end(220)", desk.end(220), 220);
         Bench.due("feed behind 220", desk.feed(1, 2, 3, 4, 5), 240);
     }
@@ -266,10 +268,10 @@ public final class TermsTest {
 
     private static List<Open> makersOf201() {
         return List.of(
-            new Open("fill 0", (d, to) -> d.fill(0, 3, 201, to)),
-            new Open("fill 1", (d, to) -> d.fill(1, 3, 201, to)),
-            new Open("fill 2", (d, to) -> d.fill(2, 3, 201, to)),
-            new Open("part", (d, to) -> d.part(3, 2, 201, to)),
+            new Open("fill 0", (d, to) -> d.fill(0, 2, 201, to)),
+            new Open("fill 1", (d, to) -> d.fill(1, 2, 201, to)),
+            new Open("fill 2", (d, to) -> d.fill(2, 2, 201, to)),
+            new Open("part", (d, to) -> d.part(2, 2, 201, to)),
             new Open("join", (d, to) -> d.join(0, 1, 0, to)),
             new Open("join with pads", (d, to) -> d.join(3, 3, 199, to)),
             new Open("copies", (d, to) -> d.copies(1, 2, to)),

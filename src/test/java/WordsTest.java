@@ -294,10 +294,12 @@ public final class WordsTest {
 
     private static void orderABeginningAhead() {
         Bench.sentence("Promise 26", "a beginning ahead");
-        Bench b = new Bench('-', "abc ab a", "a ab abc", "aa a\0 a", "b ab abc a", LONG.substring(101) + " x");
+        Bench b = new Bench('-', "abc ab a", "a ab abc", "aa a\0 a", "b ab abc a", LONG.substring(101) + " x",
+                "a\0 a\t a b");
         b.made("order of longer ones ahead", d -> d.order(0, 1, 8), 8, "a ab abc");
         b.made("order of beginnings ahead", d -> d.order(1, 1, 8), 8, "a ab abc");
         b.made("order with a byte 0", d -> d.order(2, 1, 8), 8, "a a\0 aa");
+        b.made("order with bytes below a BLANK", d -> d.order(5, 1, 8), 8, "a a\0 a\t b");
         b.made("order with another", d -> d.order(3, 1, 8), 8, "a ab abc b");
         b.made("order of a long one", d -> d.order(4, 1, 8), 8, "x " + LONG.substring(101));
     }
