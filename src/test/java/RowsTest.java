@@ -106,7 +106,7 @@ public final class RowsTest {
     }
 
     private static void fillWays() {
-        Bench.sentence("Promise 8", "way 0 ... 1 ... 2: a number that is none of those told, is NONE");
+        Bench.sentence("Promise 8, another way", "a number that is none of those told, is NONE");
         Bench b = new Bench('-', "abcde", "old", "");
         int[] wrongWays = {-1, -2, 3, 4, 256, Bench.LEAST, GREATEST};
         for (int n : new int[] {0, 5, 9, 201}) {

@@ -281,7 +281,7 @@ public final class SearchAndTurnTest {
     }
 
     private static void stripEnds() {
-        Bench.sentence("Promise 18", "0 ... 1 ... 2: a number that is none of those told, is NONE");
+        Bench.sentence("Promise 18, other ends", "a number that is none of those told, is NONE");
         Bench b = new Bench('-', "--a--", "", "old");
         int[] wrongEnds = {-1, -2, 3, 4, 256, 257, LEAST, GREATEST};
         b.answersEach(wrongEnds, "strip", (d, ends) -> d.strip(0, ends, 2), NONE);
@@ -347,7 +347,7 @@ public final class SearchAndTurnTest {
     }
 
     private static void turnHow() {
-        Bench.sentence("Promise 19", "(0) ... (4): a number that is none of those told, is NONE");
+        Bench.sentence("Promise 19, another how", "a number that is none of those told, is NONE");
         Bench b = new Bench('-', "bBa", "", "old");
         int[] wrongHows = {-1, -2, 5, 6, 256, 260, LEAST, GREATEST};
         b.answersEach(wrongHows, "turn", (d, how) -> d.turn(how, 0, 2), NONE);

@@ -105,7 +105,7 @@ public final class TermsTest {
     }
 
     private static void anyBytesMade() {
-        Bench.sentence("Terms", "any ones, in what a call makes");
+        Bench.sentence("Terms, of what a call makes", "any ones");
         for (int from : new int[] {0, 56}) {
             String bytes = bytesFrom(from);
             String about = new StringBuilder(bytes).reverse().toString();
@@ -219,7 +219,7 @@ public final class TermsTest {
     }
 
     private static void toMayBeAllItWorksOn() {
-        Bench.sentence("Terms", "REGISTER to (that may be one it works on), with all registers the same");
+        Bench.sentence("Terms, all registers the same", "REGISTER to (that may be one it works on)");
         for (int r : Bench.ALL_REGISTERS) {
             String[] rows = {"", "", "", "", "", "", "", "", "", ""};
             rows[r] = "ab c";
@@ -430,7 +430,7 @@ public final class TermsTest {
     }
 
     private static void registerAheadOfFull() {
-        Bench.sentence("Terms", "it is looked at ahead of FULL, a REGISTER");
+        Bench.sentence("Terms, a REGISTER", "it is looked at ahead of FULL");
         Bench b = new Bench('-', MOST, "a", "bb", "a b").withTape(MOST + "c");
         List<Open> all = List.of(
             new Open("put", (d, r) -> d.put(r)),
@@ -457,7 +457,7 @@ public final class TermsTest {
     }
 
     private static void numberAheadOfFull() {
-        Bench.sentence("Terms", "it is looked at ahead of FULL, a number");
+        Bench.sentence("Terms, a number", "it is looked at ahead of FULL");
         Bench b = new Bench('-', MOST, "a", "bb", "a b");
         for (int n : Bench.ABOVE_200) {
             noSuchChoice(b, 2, "fill to " + n + ", way", (d, way) -> d.fill(way, 0, n, 4));

@@ -157,7 +157,7 @@ public final class WordsTest {
     }
 
     private static void wordWhat() {
-        Bench.sentence("Promise 24", "what 0 ... 1: a number that is none of those told, is NONE");
+        Bench.sentence("Promise 24, another what", "a number that is none of those told, is NONE");
         Bench b = new Bench('-', THREE, "");
         int[] wrongWhats = {-1, -2, 2, 3, 256, LEAST, GREATEST};
         for (int k : new int[] {1, 3, 4, GREATEST}) {
@@ -252,7 +252,7 @@ public final class WordsTest {
     }
 
     private static void someWithoutNoneOfThem() {
-        Bench.sentence("Promise 25", "a without these (where these are none)");
+        Bench.sentence("Promise 25, these being none", "a without these");
         Bench b = new Bench('-', THREE, "", "   ", MANY);
         b.made("without 4, NONE", d -> d.some(0, 4, NONE, true, 5), 5, THREE);
         b.made("without 4, 1", d -> d.some(0, 4, 1, true, 5), 5, THREE);
@@ -324,7 +324,7 @@ public final class WordsTest {
     }
 
     private static void orderHow() {
-        Bench.sentence("Promise 26", "(0) ... (1): a number that is none of those told, is NONE");
+        Bench.sentence("Promise 26, another how", "a number that is none of those told, is NONE");
         Bench b = new Bench('-', "b a", "", "old");
         int[] wrongHows = {-1, -2, 2, 3, 256, LEAST, GREATEST};
         b.answersEach(wrongHows, "order", (d, how) -> d.order(0, how, 2), NONE);
