@@ -120,6 +120,10 @@ final class Bench {
         dueRow(name + ": the tape in", desk, 0, want.substring(0, read));
     }
 
+    static int wrong() {
+        return wrong;
+    }
+
     /** Ends the program, with exit code 1 if an answer was not the one due. */
     static void close() {
         String of = sentences > 0 ? " of " + sentences + " sentences" : "";

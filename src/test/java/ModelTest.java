@@ -13,7 +13,7 @@ public final class ModelTest {
     private static final int ROW_MOST = 200;
     private static final int MOST_BEFORE_READING = MOST_CALLS - ROW_MOST - 10;
     private static final int MOST_FED_AT_ONCE = 60;
-    private static final int MOST_WRONG_SHOWN = 20;
+    private static final int MOST_WRONG_RUNS = 20;
     private static final String[] LETTERS = {"ab", "ab ", "aAzZ -", "a  ", "\0\177\200\377 @[`{"};
     private static final String[] NAMES = {"feed", "end", "put", "at", "size", "pad", "fill", "part",
         "cut", "join", "copies", "set", "find", "change", "often", "unlike", "strip", "turn",
@@ -35,7 +35,7 @@ public final class ModelTest {
 
     public static void main(String[] args) {
         int wrongRuns = 0;
-        for (int seed = 0; seed < RUNS && wrongRuns < MOST_WRONG_SHOWN; seed++) {
+        for (int seed = 0; seed < RUNS && wrongRuns < MOST_WRONG_RUNS; seed++) {
             ModelTest test = new ModelTest(seed);
             test.run();
             wrongRuns += test.isWrong ? 1 : 0;
@@ -174,12 +174,14 @@ public final class ModelTest {
         if (isWrong) {
             return;
         }
+        int wrongBefore = Bench.wrong();
         String name = "seed " + seed + ", call " + done.size();
         for (int r = 0; r < model.rows.length; r++) {
             Bench.dueRow(name, deskAfterCalls(), r, model.rows[r]);
         }
         Bench.dueTape(name, deskAfterCalls(), model.tape);
         Bench.due("after " + name + ": the pad", deskAfterCalls().pad(0), model.pad);
+        isWrong = Bench.wrong() > wrongBefore;
     }
 
     private RowDesk deskAfterCalls() {
